@@ -670,9 +670,11 @@ public final class SaddleHouse {
         }
 
         private void takeGaps(Tree tree, Measure back) {
-            int least = tree.undersideAt(0) - back.heights[0];
             for (int i = 0; i < STATIONS; i++) {
                 gaps[i] = tree.undersideAt(i) - back.heights[i];
+            }
+            int least = gaps[0];
+            for (int i = 1; i < STATIONS; i++) {
                 least = Math.min(least, gaps[i]);
             }
             for (int i = 0; i < STATIONS; i++) {

@@ -44,6 +44,10 @@ public final class BacksTest {
         }
         long before = Due.told(x);
         D.refused("horse() 8", x, before, x.horse(), Due.FULL);
+        D.refused("measure of a horse 8", x, before, x.measure(8, 3), Due.UNKNOWN);
+        D.refused("back of a horse 8", x, before, x.back(8, 3, 0), Due.UNKNOWN);
+        D.due("measure of the last", x.measure(7, 3), 1);
+        D.due("back of the last", x.back(7, 3, 0), 100);
         D.due("count(0)", x.count(0), 8);
     }
 

@@ -10,6 +10,8 @@ public final class FitsTest {
         heavyAndLight();
         shimsPress();
         gapsAreNotCountedBelowTheLeast();
+        eachStationAlone();
+        steepOnSteep();
         aDayHasItsOwnBack();
         bearsRefuses();
         presses();
@@ -102,6 +104,33 @@ public final class FitsTest {
         D.due("the other horse's back is flat", x.bears(0, 1, 0, 9, 1), 1);
     }
 
+    private static void eachStationAlone() {
+        for (int lone = 0; lone <= 8; lone++) {
+            int[] gaps = {9, 9, 9, 9, 9, 9, 9, 9, 9};
+            gaps[lone] = 0;
+            int[] want = new int[9];
+            want[lone] = 9;
+            bears("alone on " + lone, Due.houseWithGaps(gaps), 9, want);
+        }
+    }
+
+    private static void steepOnSteep() {
+        SaddleHouse x = new SaddleHouse();
+        x.horse();
+        Due.row(x, 400, 0, 400, 0, 400, 0, 400, 0, 400);
+        x.measure(0, 0);
+        x.tree();
+        bears("the same shape", x, 9, 1, 1, 1, 1, 1, 1, 1, 1, 1);
+        Due.row(x, 0, 400, 0, 400, 0, 400, 0, 400, 0);
+        x.tree();
+        x.measure(0, 1);
+        D.due("the other shape", x.bears(1, 0, 1, 9, 8), 1);
+        D.due("one on the other", x.bears(1, 0, 0, 2000, 0), 400);
+        D.due("one on the other", x.bears(1, 0, 0, 2000, 1), 0);
+        D.due("the other on the one", x.bears(0, 0, 1, 2000, 7), 500);
+        D.due("the other on the one", x.bears(0, 0, 1, 2000, 8), 0);
+    }
+
     private static void aDayHasItsOwnBack() {
         SaddleHouse x = Due.houseWithGaps(0, 0, 0, 0, 0, 0, 0, 0, 0);
         Due.row(x, 102, 100, 100, 100, 100, 100, 100, 100, 100);
@@ -145,6 +174,10 @@ public final class FitsTest {
         faults("more than m", x, 14, 2, 1, 3, 3, 9);
         faults("the first that bears more", x, 14, 1, 1, 2, 3, 9);
         faults("m of 2000", x, 2000, 2000, 0, Due.NONE, 223, 9);
+        x = Due.houseWithGaps(0, 1, 1, 1, 1, 1, 1, 1, 1);
+        faults("at the first station", x, 10, 1, 1, 0, 2, 9);
+        x = Due.houseWithGaps(1, 1, 1, 1, 1, 1, 1, 1, 0);
+        faults("at the last station", x, 10, 1, 1, 8, 2, 9);
     }
 
     private static void bridges() {

@@ -29,6 +29,11 @@ public final class HidesTest {
         }
         long before = Due.told(x);
         D.refused("hide() 4", x, before, x.hide(), Due.FULL);
+        D.refused("flaw of a hide 4", x, before, x.flaw(4, 0, 0), Due.UNKNOWN);
+        D.refused("cut of a hide 4", x, before, x.cut(4, 1, 1), Due.UNKNOWN);
+        D.refused("pair of a hide 4", x, before, x.pair(4, 1, 1), Due.UNKNOWN);
+        D.refused("patch of a hide 4", x, before, x.patch(4, 0, 0), Due.UNKNOWN);
+        D.due("cut of the last", x.cut(3, 1, 1), 0);
         D.due("count(2)", x.count(2), 4);
     }
 

@@ -35,6 +35,10 @@ public final class SaddlesTest {
         D.refused("outside comes ahead of full", x, before, x.saddle(1, 0, 5, 2001, 0), Due.OUTSIDE);
         D.refused("unknown comes ahead of full", x, before, x.saddle(2, 0, 5, 0, 0), Due.UNKNOWN);
         D.due("count(4)", x.count(4), 12);
+        D.refused("free of a saddle 12", x, before, x.free(12, 6), Due.UNKNOWN);
+        D.refused("changed of a saddle 12", x, before, x.changed(12, 6), Due.UNKNOWN);
+        D.due("free of the last", x.free(11, 6), 1);
+        D.due("changed of the last", x.changed(11, 6), 0);
     }
 
     private static void saddleRefuses() {

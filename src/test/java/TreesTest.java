@@ -37,6 +37,10 @@ public final class TreesTest {
         }
         long before = Due.told(x);
         D.refused("tree() 8", x, before, x.tree(), Due.FULL);
+        D.refused("shim of a tree 8", x, before, x.shim(8, 0, 1), Due.UNKNOWN);
+        D.refused("under of a tree 8", x, before, x.under(8, 0), Due.UNKNOWN);
+        D.due("shim of the last", x.shim(7, 0, 1), 0);
+        D.due("under of the last", x.under(7, 0), 99);
         x.height(4, Due.NONE);
         D.due("outside comes ahead of full", x.tree(), Due.OUTSIDE);
         D.due("count(1)", x.count(1), 8);
