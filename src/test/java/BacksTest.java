@@ -9,6 +9,10 @@ public final class BacksTest {
         heightRefuses();
         measure();
         measureRefuses();
+        sixMeasuresAtMostOfEachHorse();
+        eachHorseHasDaysOfItsOwn();
+        theRowKeepsItsGaps();
+        gapsAlone();
         gapsRise();
         gapsFallRoundedDown();
         gapsInARow();
@@ -93,39 +97,108 @@ public final class BacksTest {
         D.due("back(1, 10000, 4)", x.back(1, 10000, 4), 50);
     }
 
-    private static void measureRefuses() {
+    private static SaddleHouse withFiveMeasures() {
         SaddleHouse x = new SaddleHouse();
-        long before = Due.told(x);
-        D.refused("measure without a horse", x, before, x.measure(0, 0), Due.UNKNOWN);
         x.horse();
-        before = Due.told(x);
-        int[] noDays = {-1, 10001, Due.LOW, Due.HIGH};
-        for (int day : noDays) {
-            D.refused("measure(0, " + day + ")", x, before, x.measure(0, day), Due.OUTSIDE);
-            D.refused("measure(1, " + day + ")", x, before, x.measure(1, day), Due.UNKNOWN);
-        }
-        D.refused("measure(-1, 3)", x, before, x.measure(-1, 3), Due.UNKNOWN);
-        D.refused("measure(high, 3)", x, before, x.measure(Due.HIGH, 3), Due.UNKNOWN);
-        x.height(0, Due.NONE);
-        before = Due.told(x);
-        D.refused("measure with a gap at 0", x, before, x.measure(0, 3), Due.OUTSIDE);
-        x.height(0, 5);
-        x.height(8, Due.NONE);
-        before = Due.told(x);
-        D.refused("measure with a gap at 8", x, before, x.measure(0, 3), Due.OUTSIDE);
-        x.height(8, 5);
         for (int n = 1; n <= 5; n++) {
             D.due("measure " + n, x.measure(0, 10 * n), n);
         }
-        before = Due.told(x);
-        D.refused("a day like the latest", x, before, x.measure(0, 50), Due.STATE);
-        D.refused("a day ahead of the latest", x, before, x.measure(0, 49), Due.STATE);
-        D.due("measure 6", x.measure(0, 60), 6);
-        before = Due.told(x);
-        D.refused("measure 7", x, before, x.measure(0, 61), Due.FULL);
-        D.refused("state comes ahead of full", x, before, x.measure(0, 60), Due.STATE);
+        return x;
+    }
+
+    private static SaddleHouse withGapAt(int i) {
+        SaddleHouse x = new SaddleHouse();
+        x.horse();
+        x.height(i, Due.NONE);
+        return x;
+    }
+
+    private static void measureRefuses() {
+        D.refused("measure without a horse", SaddleHouse::new, h -> h.measure(0, 0), Due.UNKNOWN);
+        int[] unknown = {-1, 1, 8, Due.LOW, Due.HIGH};
+        for (int n : unknown) {
+            D.refused("measure(" + n + ", 51)", BacksTest::withFiveMeasures, h -> h.measure(n, 51), Due.UNKNOWN);
+        }
+        int[] noDays = {-1, 10001, Due.LOW, Due.HIGH};
+        for (int day : noDays) {
+            D.refused("measure(0, " + day + ")", BacksTest::withFiveMeasures, h -> h.measure(0, day), Due.OUTSIDE);
+        }
+        D.refused("measure with a gap at 0", () -> withGapAt(0), h -> h.measure(0, 3), Due.OUTSIDE);
+        D.refused("measure with a gap at 8", () -> withGapAt(8), h -> h.measure(0, 3), Due.OUTSIDE);
+        for (int i = 1; i <= 7; i++) {
+            D.due("measure with a gap at " + i, withGapAt(i).measure(0, 3), 1);
+        }
+        int[] notAbove = {0, 49, 50};
+        for (int day : notAbove) {
+            D.refused("day " + day + " behind 50", BacksTest::withFiveMeasures, h -> h.measure(0, day), Due.STATE);
+        }
+        D.due("day 51 behind 50", withFiveMeasures().measure(0, 51), 6);
+    }
+
+    private static SaddleHouse withSixMeasures() {
+        SaddleHouse x = withFiveMeasures();
+        x.horse();
+        D.due("measure 6", x.measure(0, 10000), 6);
+        return x;
+    }
+
+    private static void sixMeasuresAtMostOfEachHorse() {
+        SaddleHouse x = new SaddleHouse();
+        x.horse();
+        x.horse();
+        for (int n = 1; n <= 6; n++) {
+            D.due("measure " + n, x.measure(0, n), n);
+        }
+        long before = Due.told(x);
+        D.refused("measure 7", x, before, x.measure(0, 7), Due.FULL);
+        D.due("the sixth is the back", x.back(0, 10000, 4), 100);
+        D.due("the other horse has room", x.measure(1, 7), 1);
+    }
+
+    private static void eachHorseHasDaysOfItsOwn() {
+        SaddleHouse x = withSixMeasures();
+        D.due("day 0 of horse 1 behind day 10000 of horse 0", x.measure(1, 0), 1);
+        D.due("and day 10000 of it too", x.measure(1, 10000), 2);
+        D.refused("no day is above 10000", () -> {
+            SaddleHouse last = new SaddleHouse();
+            last.horse();
+            last.measure(0, 10000);
+            return last;
+        }, h -> h.measure(0, 10000), Due.STATE);
+    }
+
+    private static void theRowKeepsItsGaps() {
+        SaddleHouse x = withGapAt(4);
+        x.height(5, 101);
+        D.due("a measure with a gap", x.measure(0, 3), 1);
+        D.due("is filled", x.back(0, 3, 4), 100);
+        D.due("the row at hand is not", x.height(4, 7), Due.NONE);
         x.height(0, Due.NONE);
-        D.due("outside comes ahead of state", x.measure(0, 60), Due.OUTSIDE);
+        D.due("a measure that is refused", x.measure(0, 4), Due.OUTSIDE);
+        D.due("leaves the gap in the row", x.height(0, 9), Due.NONE);
+        D.due("and is taken without it", x.measure(0, 4), 2);
+        D.due("from the row as it is now", x.back(0, 4, 4), 7);
+    }
+
+    private static void backs(String name, int[] row, int... want) {
+        SaddleHouse x = new SaddleHouse();
+        x.horse();
+        Due.row(x, row);
+        x.measure(0, 0);
+        for (int i = 0; i <= 8; i++) {
+            D.due(name + " at " + i, x.back(0, 0, i), want[i]);
+        }
+    }
+
+    /** One gap takes half of the difference, and of 1 up nothing, of 1 down all. */
+    private static void gapsAlone() {
+        backs("gaps one by one", new int[] {0, -1, 1, -1, 0, -1, 400, -1, 0}, 0, 0, 1, 0, 0, 200, 400, 200, 0);
+        backs("a gap at 1 and at 7", new int[] {10, -1, 13, 13, 13, 13, 13, -1, 10}, 10, 11, 13, 13, 13, 13, 13, 11, 10);
+        backs("a gap between like heights", new int[] {5, -1, 5, -1, -1, 5, -1, -1, 5}, 5, 5, 5, 5, 5, 5, 5, 5, 5);
+        backs("a rise of 1 in eight", new int[] {0, -1, -1, -1, -1, -1, -1, -1, 1}, 0, 0, 0, 0, 0, 0, 0, 0, 1);
+        backs("a fall of 1 in eight", new int[] {1, -1, -1, -1, -1, -1, -1, -1, 0}, 1, 0, 0, 0, 0, 0, 0, 0, 0);
+        backs("from 0 to 400", new int[] {0, -1, -1, -1, -1, -1, -1, -1, 400}, 0, 50, 100, 150, 200, 250, 300, 350, 400);
+        backs("from 400 to 0", new int[] {400, -1, -1, -1, -1, -1, -1, -1, 0}, 400, 350, 300, 250, 200, 150, 100, 50, 0);
     }
 
     private static void gapsRise() {

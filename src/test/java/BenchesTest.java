@@ -9,7 +9,10 @@ public final class BenchesTest {
         workOnTheLeastPromise();
         workOfLikeOnesTheLeastNumber();
         workRefuses();
+        workOfOneHourAndOfAThousand();
+        workFromTheLaterOfDayAndHour();
         workAboveTheLastDay();
+        workToTheLastHourOfTheLastDay();
         workWhereOneBenchIsStillInTime();
         D.end();
     }
@@ -105,6 +108,34 @@ public final class BenchesTest {
         D.due("where() behind the refused", x.where(), 1);
     }
 
+    private static void workOfOneHourAndOfAThousand() {
+        SaddleHouse x = new SaddleHouse();
+        x.bench(24);
+        D.due("1 of 24 hours", x.work(1, 0), 0);
+        D.due("23 more", x.work(23, 0), 0);
+        D.due("1000 of 24 a day", x.work(1000, 0), 42);
+        D.due("the last 8 of the day", x.work(8, 0), 42);
+        D.due("the first of the next", x.work(1, 0), 43);
+        x = new SaddleHouse();
+        x.bench(1);
+        D.due("1 of 1 hour", x.work(1, 0), 0);
+        D.due("1000 of 1 a day", x.work(1000, 0), 1000);
+        D.due("1 more", x.work(1, 0), 1001);
+        D.due("1 on the last day to be told", x.work(1, 10000), 10000);
+        D.due("count(7)", x.count(7), 1003);
+    }
+
+    private static void workFromTheLaterOfDayAndHour() {
+        SaddleHouse x = new SaddleHouse();
+        x.bench(4);
+        D.due("10 hours from day 2", x.work(10, 2), 4);
+        D.due("from day 4, but behind the other", x.work(2, 4), 4);
+        D.due("from day 5, the hour at which it is free", x.work(4, 5), 5);
+        D.due("from day 7, an hour later than free", x.work(1, 7), 7);
+        D.due("from day 0, behind all", x.work(4, 0), 8);
+        D.due("the hour at which it is free", x.digest(), 31L * (31 * 131 + 4) + 33);
+    }
+
     private static void workAboveTheLastDay() {
         SaddleHouse x = new SaddleHouse();
         x.bench(1);
@@ -119,6 +150,30 @@ public final class BenchesTest {
         before = Due.told(x);
         D.refused("a day of 100001", x, before, x.work(1, 0), Due.STATE);
         D.due("count(7)", x.count(7), 90001);
+    }
+
+    /** The last hour of day 100000 is hour 400003 of a bench of 4 a day. */
+    private static void workToTheLastHourOfTheLastDay() {
+        SaddleHouse x = new SaddleHouse();
+        x.bench(4);
+        D.due("from the last day to be told", x.work(1000, 10000), 10249);
+        for (int k = 2; k <= 359; k++) {
+            x.work(1000, 0);
+        }
+        D.due("360000 hours", x.work(1000, 0), 99999);
+        D.due("five more are one too many", x.work(5, 0), Due.STATE);
+        D.due("and change no hours", x.count(7), 360000);
+        D.due("three more", x.work(3, 0), 100000);
+        D.due("two more are one too many", x.work(2, 0), Due.STATE);
+        D.due("the last hour", x.work(1, 0), 100000);
+        D.due("one more is one too many", x.work(1, 0), Due.STATE);
+        D.due("and so it is from the last day", x.work(1, 10000), Due.STATE);
+        D.due("where()", x.where(), 0);
+        D.due("the hour at which it is free", x.digest(), 31L * (31 * 131 + 4) + 400004);
+        D.due("count(7)", x.count(7), 360004);
+        D.due("another bench", x.bench(1), 1);
+        D.due("is in time", x.work(1, 0), 0);
+        D.due("where()", x.where(), 1);
     }
 
     private static void workWhereOneBenchIsStillInTime() {

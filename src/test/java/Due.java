@@ -1,3 +1,6 @@
+import java.util.function.Supplier;
+import java.util.function.ToLongFunction;
+
 /** Compares answers with what is due, and holds what several tests do alike. */
 final class Due {
     static final int NONE = -1;
@@ -28,6 +31,12 @@ final class Due {
     void refused(String call, SaddleHouse x, long before, long got, long want) {
         due(call, got, want);
         due("all that is told behind the refused " + call, told(x), before);
+    }
+
+    /** The same, asked of a house of its own: nothing is promised behind an object's 512th call, and telling all takes 28. */
+    void refused(String call, Supplier<SaddleHouse> maker, ToLongFunction<SaddleHouse> ask, long want) {
+        SaddleHouse x = maker.get();
+        refused(call, x, told(x), ask.applyAsLong(x), want);
     }
 
     static long told(SaddleHouse x) {

@@ -1,6 +1,11 @@
+import java.util.function.ToLongFunction;
+
 /** Promises 9 to 11: bears, fault, best. */
 public final class FitsTest {
     private static final Due D = new Due("FitsTest");
+    private static final int[] UNKNOWN_NUMBERS = {-1, 1, Due.LOW, Due.HIGH};
+    private static final int[] NO_DAYS = {-1, 10001, Due.LOW, Due.HIGH};
+    private static final int[] NO_LOADS = {0, -1, 2001, Due.LOW, Due.HIGH};
 
     public static void main(String[] args) {
         flatSharesAlike();
@@ -12,6 +17,9 @@ public final class FitsTest {
         gapsAreNotCountedBelowTheLeast();
         eachStationAlone();
         steepOnSteep();
+        theWidestGap();
+        theLeastLoad();
+        theGreatestLoad();
         aDayHasItsOwnBack();
         bearsRefuses();
         presses();
@@ -21,6 +29,7 @@ public final class FitsTest {
         faultsInOrder();
         faultRefuses();
         best();
+        bestOfEight();
         bestRefuses();
         D.end();
     }
@@ -131,6 +140,44 @@ public final class FitsTest {
         D.due("the other on the one", x.bears(0, 0, 1, 2000, 8), 0);
     }
 
+    /** An underside of -20 on a height of 400, and of 400 on a height of 0: a gap of 820. */
+    private static void theWidestGap() {
+        SaddleHouse x = new SaddleHouse();
+        x.horse();
+        Due.row(x, 0, 0, 0, 0, 400, 0, 0, 0, 0);
+        x.measure(0, 0);
+        Due.row(x, 400, 400, 400, 400, 0, 400, 400, 400, 400);
+        x.tree();
+        x.shim(0, 4, 20);
+        bears("as much as the gap", x, 820, 0, 0, 0, 0, 820, 0, 0, 0, 0);
+        bears("one more, of nine", x, 821, 1, 1, 1, 1, 813, 1, 1, 1, 1);
+        bears("eight more, of nine", x, 828, 1, 1, 1, 1, 820, 1, 1, 1, 1);
+        bears("nine more, of nine", x, 829, 1, 1, 1, 1, 821, 1, 1, 1, 1);
+        bears("the greatest load", x, 2000, 132, 132, 132, 132, 944, 132, 132, 132, 132);
+        faults("on one station", x, 820, 820, 3, 0, 820, 1);
+        faults("on one station, too much", x, 820, 819, 1, 4, 820, 1);
+        faults("on all", x, 821, 813, 0, Due.NONE, 813, 9);
+    }
+
+    private static void theLeastLoad() {
+        SaddleHouse x = Due.houseWithGaps(0, 0, 0, 0, 0, 0, 0, 0, 0);
+        faults("the last of nine bears 1", x, 1, 1, 3, 0, 1, 1);
+        x = Due.houseWithGaps(0, 1, 1, 1, 1, 1, 1, 1, 1);
+        bears("the only one", x, 1, 1, 0, 0, 0, 0, 0, 0, 0, 0);
+        faults("the only one, ahead", x, 1, 1, 3, 6, 1, 1);
+        x = Due.houseWithGaps(0, 0, 1, 1, 1, 1, 1, 1, 1);
+        bears("the last of two", x, 1, 0, 1, 0, 0, 0, 0, 0, 0, 0);
+        bears("both of two", x, 2, 1, 1, 0, 0, 0, 0, 0, 0, 0);
+    }
+
+    private static void theGreatestLoad() {
+        SaddleHouse x = Due.houseWithGaps(0, 300, 300, 300, 300, 300, 300, 300, 0);
+        bears("456 on two, less four", x, 2000, 454, 156, 156, 156, 156, 156, 156, 156, 454);
+        faults("as much as m", x, 2000, 454, 0, Due.NONE, 454, 9);
+        faults("more than m", x, 2000, 453, 1, 0, 454, 9);
+        faults("more than the least m", x, 2000, 1, 1, 0, 454, 9);
+    }
+
     private static void aDayHasItsOwnBack() {
         SaddleHouse x = Due.houseWithGaps(0, 0, 0, 0, 0, 0, 0, 0, 0);
         Due.row(x, 102, 100, 100, 100, 100, 100, 100, 100, 100);
@@ -138,6 +185,27 @@ public final class FitsTest {
         D.due("day 6", x.bears(0, 0, 6, 9, 0), 1);
         D.due("day 7", x.bears(0, 0, 7, 11, 0), 3);
         D.due("day 10000", x.bears(0, 0, 10000, 2, 0), 2);
+        D.due("fault on day 0", x.fault(0, 0, 0, 11, 2, 0), 0);
+        D.due("fault on day 6", x.fault(0, 0, 6, 11, 2, 0), 0);
+        D.due("fault on day 7", x.fault(0, 0, 7, 11, 2, 0), 1);
+        D.due("fault on day 10000", x.fault(0, 0, 10000, 11, 2, 1), 0);
+        D.due("best on day 0", x.best(0, 0, 11, 2), 0);
+        D.due("best on day 6", x.best(0, 6, 11, 2), 0);
+        D.due("best on day 7", x.best(0, 7, 11, 2), Due.NONE);
+        D.due("best on day 10000", x.best(0, 10000, 11, 3), 0);
+    }
+
+    /** Horse 0 has a back from day 5 on; a horse 1 and a tree 1 there are not. */
+    private static SaddleHouse oneOfEach() {
+        SaddleHouse x = new SaddleHouse();
+        x.horse();
+        x.measure(0, 5);
+        x.tree();
+        return x;
+    }
+
+    private static void fitRefuses(String call, ToLongFunction<SaddleHouse> ask, long want) {
+        D.refused(call, FitsTest::oneOfEach, ask, want);
     }
 
     private static void bearsRefuses() {
@@ -145,27 +213,22 @@ public final class FitsTest {
         x.horse();
         x.measure(0, 5);
         D.due("bears without a tree", x.bears(0, 0, 5, 1, 0), Due.UNKNOWN);
-        x.tree();
-        long before = Due.told(x);
-        int[] unknown = {-1, 1, Due.LOW, Due.HIGH};
-        for (int n : unknown) {
-            D.refused("bears tree " + n, x, before, x.bears(n, 0, -1, 0, 0), Due.UNKNOWN);
-            D.refused("bears horse " + n, x, before, x.bears(0, n, -1, 0, 0), Due.UNKNOWN);
+        for (int n : UNKNOWN_NUMBERS) {
+            fitRefuses("bears tree " + n, h -> h.bears(n, 0, 5, 1, 0), Due.UNKNOWN);
+            fitRefuses("bears horse " + n, h -> h.bears(0, n, 5, 1, 0), Due.UNKNOWN);
         }
         int[] noStations = {-1, 9, Due.LOW, Due.HIGH};
         for (int i : noStations) {
-            D.refused("bears station " + i, x, before, x.bears(0, 0, -1, 0, i), Due.UNKNOWN);
+            fitRefuses("bears station " + i, h -> h.bears(0, 0, 5, 1, i), Due.UNKNOWN);
         }
-        int[] noDays = {-1, 10001, Due.LOW, Due.HIGH};
-        for (int day : noDays) {
-            D.refused("bears day " + day, x, before, x.bears(0, 0, day, 1, 0), Due.OUTSIDE);
+        for (int day : NO_DAYS) {
+            fitRefuses("bears day " + day, h -> h.bears(0, 0, day, 1, 0), Due.OUTSIDE);
         }
-        int[] noLoads = {0, -1, 2001, Due.LOW, Due.HIGH};
-        for (int load : noLoads) {
-            D.refused("bears load " + load, x, before, x.bears(0, 0, 4, load, 0), Due.OUTSIDE);
+        for (int load : NO_LOADS) {
+            fitRefuses("bears load " + load, h -> h.bears(0, 0, 5, load, 0), Due.OUTSIDE);
         }
-        D.refused("bears without a back", x, before, x.bears(0, 0, 4, 1, 0), Due.STATE);
-        D.due("bears on the first day", x.bears(0, 0, 5, 9, 0), 1);
+        fitRefuses("bears without a back", h -> h.bears(0, 0, 4, 1, 0), Due.STATE);
+        D.due("bears on the first day", oneOfEach().bears(0, 0, 5, 9, 0), 1);
     }
 
     private static void presses() {
@@ -233,27 +296,25 @@ public final class FitsTest {
         x.horse();
         x.measure(0, 5);
         D.due("fault without a tree", x.fault(0, 0, 5, 1, 1, 0), Due.UNKNOWN);
-        x.tree();
-        long before = Due.told(x);
-        int[] unknown = {-1, 1, Due.LOW, Due.HIGH};
-        for (int n : unknown) {
-            D.refused("fault tree " + n, x, before, x.fault(n, 0, -1, 0, 0, 4), Due.UNKNOWN);
-            D.refused("fault horse " + n, x, before, x.fault(0, n, -1, 0, 0, 4), Due.UNKNOWN);
+        for (int n : UNKNOWN_NUMBERS) {
+            fitRefuses("fault tree " + n, h -> h.fault(n, 0, 5, 1, 1, 0), Due.UNKNOWN);
+            fitRefuses("fault horse " + n, h -> h.fault(0, n, 5, 1, 1, 0), Due.UNKNOWN);
         }
-        int[] noDays = {-1, 10001, Due.LOW, Due.HIGH};
-        for (int day : noDays) {
-            D.refused("fault day " + day, x, before, x.fault(0, 0, day, 1, 1, 0), Due.OUTSIDE);
+        for (int day : NO_DAYS) {
+            fitRefuses("fault day " + day, h -> h.fault(0, 0, day, 1, 1, 0), Due.OUTSIDE);
         }
-        int[] noLoads = {0, -1, 2001, Due.LOW, Due.HIGH};
-        for (int load : noLoads) {
-            D.refused("fault load " + load, x, before, x.fault(0, 0, 4, load, 1, 0), Due.OUTSIDE);
-            D.refused("fault m " + load, x, before, x.fault(0, 0, 4, 1, load, 0), Due.OUTSIDE);
+        for (int load : NO_LOADS) {
+            fitRefuses("fault load " + load, h -> h.fault(0, 0, 5, load, 1, 0), Due.OUTSIDE);
+            fitRefuses("fault m " + load, h -> h.fault(0, 0, 5, 1, load, 0), Due.OUTSIDE);
         }
         int[] noWhats = {-1, 4, Due.LOW, Due.HIGH};
         for (int what : noWhats) {
-            D.refused("fault what " + what, x, before, x.fault(0, 0, 4, 1, 1, what), Due.OUTSIDE);
+            fitRefuses("fault what " + what, h -> h.fault(0, 0, 5, 1, 1, what), Due.OUTSIDE);
         }
-        D.refused("fault without a back", x, before, x.fault(0, 0, 4, 1, 1, 0), Due.STATE);
+        for (int what = 0; what <= 3; what++) {
+            int each = what;
+            fitRefuses("fault without a back, what " + what, h -> h.fault(0, 0, 4, 1, 1, each), Due.STATE);
+        }
     }
 
     private static void best() {
@@ -278,27 +339,45 @@ public final class FitsTest {
         D.due("one with less that rocks is not taken", x.best(0, 0, 12, 2000), 1);
     }
 
-    private static void bestRefuses() {
+    /** Eight trees, each two alike and lower in the middle than the two ahead. */
+    private static void bestOfEight() {
         SaddleHouse x = new SaddleHouse();
-        D.due("best without a horse", x.best(0, 0, 1, 1), Due.UNKNOWN);
         x.horse();
-        x.measure(0, 5);
-        x.tree();
-        long before = Due.told(x);
-        int[] unknown = {-1, 1, Due.LOW, Due.HIGH};
-        for (int n : unknown) {
-            D.refused("best horse " + n, x, before, x.best(n, -1, 0, 0), Due.UNKNOWN);
+        x.measure(0, 0);
+        for (int t = 0; t < 8; t++) {
+            Due.flat(x, 100);
+            x.height(4, 100 - t / 2);
+            x.tree();
         }
-        int[] noDays = {-1, 10001, Due.LOW, Due.HIGH};
-        for (int day : noDays) {
-            D.refused("best day " + day, x, before, x.best(0, day, 1, 1), Due.OUTSIDE);
+        D.due("all bear 1", x.best(0, 0, 9, 2000), 0);
+        x.shim(0, 4, 9);
+        D.due("the first rocks", x.best(0, 0, 9, 2000), 1);
+        for (int t = 1; t < 7; t++) {
+            x.shim(t, 4, 20);
         }
-        int[] noLoads = {0, -1, 2001, Due.LOW, Due.HIGH};
-        for (int load : noLoads) {
-            D.refused("best load " + load, x, before, x.best(0, 4, load, 1), Due.OUTSIDE);
-            D.refused("best m " + load, x, before, x.best(0, 4, 1, load), Due.OUTSIDE);
+        D.due("all rock but the last", x.best(0, 0, 9, 2000), 7);
+        D.due("which bears least where all fit", x.best(0, 0, 90, 2000), 7);
+        D.due("10, and no more than m", x.best(0, 0, 90, 10), 7);
+        D.due("10, more than m", x.best(0, 0, 90, 9), Due.NONE);
+        x.shim(7, 4, 20);
+        D.due("18 of the first, 26 of the others", x.best(0, 0, 90, 2000), 0);
+        D.due("18, more than m", x.best(0, 0, 90, 17), Due.NONE);
+        D.due("all rock", x.best(0, 0, 9, 2000), Due.NONE);
+    }
+
+    private static void bestRefuses() {
+        D.due("best without a horse", new SaddleHouse().best(0, 0, 1, 1), Due.UNKNOWN);
+        for (int n : UNKNOWN_NUMBERS) {
+            fitRefuses("best horse " + n, h -> h.best(n, 5, 1, 1), Due.UNKNOWN);
         }
-        D.refused("best without a back", x, before, x.best(0, 4, 1, 1), Due.STATE);
-        D.due("best on the first day", x.best(0, 5, 9, 1), 0);
+        for (int day : NO_DAYS) {
+            fitRefuses("best day " + day, h -> h.best(0, day, 1, 1), Due.OUTSIDE);
+        }
+        for (int load : NO_LOADS) {
+            fitRefuses("best load " + load, h -> h.best(0, 5, load, 1), Due.OUTSIDE);
+            fitRefuses("best m " + load, h -> h.best(0, 5, 1, load), Due.OUTSIDE);
+        }
+        fitRefuses("best without a back", h -> h.best(0, 4, 1, 1), Due.STATE);
+        D.due("best on the first day", oneOfEach().best(0, 5, 9, 1), 0);
     }
 }

@@ -5,13 +5,18 @@ public final class HidesTest {
     public static void main(String[] args) {
         hide();
         flaw();
+        flawAtTheCorners();
         flawRefuses();
         cutRowByRow();
+        noPieceGoesAroundTheEdge();
+        theSmallestAndTheGreatestPieces();
         cutAroundFlaws();
         cutWhole();
         cutRefuses();
         pair();
         pairBothOrNone();
+        pairsToTheLastPatch();
+        thePairsSecondMayTouchTheFirst();
         pairRefuses();
         patchRefuses();
         D.end();
@@ -53,6 +58,28 @@ public final class HidesTest {
         D.due("patch(0, 3, 11)", x.patch(0, 3, 11), 0);
     }
 
+    private static void flawAtTheCorners() {
+        SaddleHouse x = new SaddleHouse();
+        x.hide();
+        int[] places = {0, 15, 176, 191};
+        for (int place : places) {
+            D.due("flaw at " + place, x.flaw(0, place % 16, place / 16), 0);
+        }
+        int flaws = 0;
+        for (int place = 0; place < 192; place++) {
+            flaws += x.patch(0, place % 16, place / 16);
+        }
+        D.due("four flaws and no more", flaws, 4);
+        D.due("14 by 12 between", x.cut(0, 14, 12), 1);
+        D.due("1 by 10 at the left", x.cut(0, 1, 10), 16);
+        D.due("1 by 10 at the right", x.cut(0, 1, 10), 31);
+        D.due("nothing but the flaws is left", x.cut(0, 1, 1), Due.NONE);
+        for (int place : places) {
+            D.due("the flaw at " + place + " is still there", x.flaw(0, place % 16, place / 16), 1);
+        }
+        D.due("count(6)", x.count(6), 188);
+    }
+
     private static void flawRefuses() {
         SaddleHouse x = new SaddleHouse();
         D.due("flaw without a hide", x.flaw(0, 0, 0), Due.UNKNOWN);
@@ -89,6 +116,34 @@ public final class HidesTest {
         D.due("cut 16 by 8", x.cut(0, 16, 8), 64);
         D.due("nothing is left", x.cut(0, 1, 1), Due.NONE);
         D.due("count(6)", x.count(6), 192);
+    }
+
+    /** What is left is the last column of each row and the first column of the next. */
+    private static void noPieceGoesAroundTheEdge() {
+        SaddleHouse x = new SaddleHouse();
+        x.hide();
+        x.flaw(0, 0, 0);
+        x.flaw(0, 15, 11);
+        D.due("14 by 12 in the middle", x.cut(0, 14, 12), 1);
+        long before = Due.told(x);
+        D.refused("2 by 1 around the right edge", x, before, x.cut(0, 2, 1), Due.NONE);
+        D.refused("1 by 12 below the lower edge", x, before, x.cut(0, 1, 12), Due.NONE);
+        D.refused("a pair of 2 by 1", x, before, x.pair(0, 2, 1), Due.NONE);
+        D.due("1 by 11 at the right edge", x.cut(0, 1, 11), 15);
+        D.due("1 by 11 at the left edge", x.cut(0, 1, 11), 16);
+    }
+
+    private static void theSmallestAndTheGreatestPieces() {
+        int[][] sizes = {{1, 1}, {16, 1}, {1, 12}, {16, 12}};
+        for (int[] size : sizes) {
+            SaddleHouse x = new SaddleHouse();
+            x.hide();
+            D.due("cut " + size[0] + " by " + size[1], x.cut(0, size[0], size[1]), 0);
+            D.due("count(6)", x.count(6), size[0] * size[1]);
+            D.due("its last patch", x.patch(0, size[0] - 1, size[1] - 1), 2);
+            D.due("its last column's next", x.patch(0, size[0], 0), size[0] == 16 ? Due.UNKNOWN : 0);
+            D.due("its last row's next", x.patch(0, 0, size[1]), size[1] == 12 ? Due.UNKNOWN : 0);
+        }
     }
 
     private static void cutAroundFlaws() {
@@ -172,6 +227,37 @@ public final class HidesTest {
         D.refused("a pair of which none has room", x, before, x.pair(0, 1, 2), Due.NONE);
         D.due("the row that is left", x.pair(0, 4, 1), 176 + 256 * 180);
         D.due("behind the flaw", x.cut(0, 7, 1), 185);
+    }
+
+    private static void pairsToTheLastPatch() {
+        SaddleHouse x = new SaddleHouse();
+        x.hide();
+        for (int k = 0; k < 95; k++) {
+            D.due("pair 1 by 1, " + k, x.pair(0, 1, 1), 2 * k + 256 * (2 * k + 1));
+        }
+        D.due("one of the last two", x.cut(0, 1, 1), 190);
+        long before = Due.told(x);
+        D.refused("a pair of which one has room", x, before, x.pair(0, 1, 1), Due.NONE);
+        D.due("the last is whole", x.patch(0, 15, 11), 0);
+        D.due("and can be cut", x.cut(0, 1, 1), 191);
+        before = Due.told(x);
+        D.refused("a pair on a hide that is all cut", x, before, x.pair(0, 1, 1), Due.NONE);
+        D.refused("a piece of a hide that is all cut", x, before, x.cut(0, 1, 1), Due.NONE);
+        D.due("count(6)", x.count(6), 192);
+    }
+
+    private static void thePairsSecondMayTouchTheFirst() {
+        SaddleHouse x = new SaddleHouse();
+        for (int h = 0; h < 4; h++) {
+            x.hide();
+        }
+        D.due("pair 8 by 12", x.pair(0, 8, 12), 256 * 8);
+        D.due("pair 16 by 6", x.pair(1, 16, 6), 256 * 96);
+        D.due("pair 9 by 6, below", x.pair(2, 9, 6), 256 * 96);
+        x.flaw(3, 0, 0);
+        D.due("pair 8 by 6 behind a flaw", x.pair(3, 8, 6), 1 + 256 * 96);
+        D.due("right of the second", x.pair(3, 7, 6), 9 + 256 * 104);
+        D.due("count(6)", x.count(6), 192 + 192 + 108 + 96 + 84);
     }
 
     private static void pairRefuses() {

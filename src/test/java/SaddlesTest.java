@@ -1,3 +1,5 @@
+import java.util.function.ToLongFunction;
+
 /** Promises 24 to 26: saddle, free, changed. */
 public final class SaddlesTest {
     private static final Due D = new Due("SaddlesTest");
@@ -10,6 +12,8 @@ public final class SaddlesTest {
         aLaterMeasureAheadOfTheSaddlesDay();
         freeByDays();
         freeByChange();
+        theShortestGuarantees();
+        theLongestGuarantee();
         freeRefuses();
         D.end();
     }
@@ -41,29 +45,32 @@ public final class SaddlesTest {
         D.due("changed of the last", x.changed(11, 6), 0);
     }
 
+    private static void saddleRefuses(String call, ToLongFunction<SaddleHouse> ask, long want) {
+        D.refused(call, SaddlesTest::house, ask, want);
+    }
+
     private static void saddleRefuses() {
-        SaddleHouse x = house();
-        long before = Due.told(x);
-        int[] unknown = {-1, 2, Due.LOW, Due.HIGH};
+        int[] unknown = {-1, 2, 8, Due.LOW, Due.HIGH};
         for (int n : unknown) {
-            D.refused("saddle tree " + n, x, before, x.saddle(n, 0, -1, -1, -1), Due.UNKNOWN);
-            D.refused("saddle horse " + n, x, before, x.saddle(0, n, -1, -1, -1), Due.UNKNOWN);
+            saddleRefuses("saddle tree " + n, h -> h.saddle(n, 0, 5, 0, 0), Due.UNKNOWN);
+            saddleRefuses("saddle horse " + n, h -> h.saddle(0, n, 5, 0, 0), Due.UNKNOWN);
         }
         int[] noDays = {-1, 10001, Due.LOW, Due.HIGH};
         for (int day : noDays) {
-            D.refused("saddle day " + day, x, before, x.saddle(0, 0, day, 0, 0), Due.OUTSIDE);
+            saddleRefuses("saddle day " + day, h -> h.saddle(0, 0, day, 0, 0), Due.OUTSIDE);
         }
         int[] noGuarantees = {-1, 2001, Due.LOW, Due.HIGH};
         for (int d : noGuarantees) {
-            D.refused("saddle d " + d, x, before, x.saddle(0, 0, 4, d, 0), Due.OUTSIDE);
+            saddleRefuses("saddle d " + d, h -> h.saddle(0, 0, 5, d, 0), Due.OUTSIDE);
         }
         int[] noChanges = {-1, 401, Due.LOW, Due.HIGH};
         for (int c : noChanges) {
-            D.refused("saddle c " + c, x, before, x.saddle(0, 0, 4, 0, c), Due.OUTSIDE);
+            saddleRefuses("saddle c " + c, h -> h.saddle(0, 0, 5, 0, c), Due.OUTSIDE);
         }
-        D.refused("saddle ahead of the first measure", x, before, x.saddle(0, 0, 4, 0, 0), Due.STATE);
-        D.refused("saddle for a horse without a back", x, before, x.saddle(0, 1, 9, 0, 0), Due.STATE);
-        D.due("saddle on the first measure's day", x.saddle(0, 0, 5, 0, 0), 0);
+        saddleRefuses("saddle ahead of the first measure", h -> h.saddle(0, 0, 4, 0, 0), Due.STATE);
+        saddleRefuses("saddle for a horse without a back", h -> h.saddle(0, 1, 9, 0, 0), Due.STATE);
+        D.due("saddle on the first measure's day", house().saddle(0, 0, 5, 0, 0), 0);
+        D.due("saddle on the last day", house().saddle(0, 0, 10000, 2000, 400), 0);
     }
 
     private static void changed() {
@@ -144,24 +151,72 @@ public final class SaddlesTest {
         D.due("just in time", x.free(0, 2010), 1);
     }
 
-    private static void freeRefuses() {
+    /** A guarantee of no days has none, of one the next day; a change of 0 is always there. */
+    private static void theShortestGuarantees() {
+        SaddleHouse x = new SaddleHouse();
+        x.horse();
+        x.measure(0, 0);
+        x.tree();
+        D.due("a saddle on day 0", x.saddle(0, 0, 0, 0, 0), 0);
+        D.due("of one day", x.saddle(0, 0, 0, 1, 0), 1);
+        D.due("of one day and a change of 1", x.saddle(0, 0, 0, 1, 1), 2);
+        D.due("no days, the next day", x.free(0, 1), 0);
+        D.due("one day, the next day", x.free(1, 1), 1);
+        D.due("one day, the day behind it", x.free(1, 2), 0);
+        D.due("a change of 1 that did not come", x.free(2, 1), 0);
+        x.height(0, 99);
+        x.measure(0, 1);
+        D.due("a change of 1 that came", x.free(2, 1), 1);
+        D.due("a change that came too late", x.free(2, 2), 0);
+        D.due("no days, all the same", x.free(0, 1), 0);
+        D.due("the last day", x.free(1, 10000), 0);
+        D.due("the change on the last day", x.changed(0, 10000), 1);
+    }
+
+    private static void theLongestGuarantee() {
+        SaddleHouse x = new SaddleHouse();
+        x.horse();
+        Due.row(x, 0);
+        x.measure(0, 0);
+        x.tree();
+        x.saddle(0, 0, 0, 2000, 400);
+        x.height(0, 399);
+        x.measure(0, 1999);
+        D.due("by 399", x.free(0, 1999), 0);
+        x.height(0, 400);
+        x.measure(0, 2000);
+        D.due("by 400, 2000 days behind", x.free(0, 2000), 1);
+        D.due("by 400, 2001 days behind", x.free(0, 2001), 0);
+        D.due("by 400 on any day", x.changed(0, 2001), 400);
+    }
+
+    private static SaddleHouse withASaddle() {
         SaddleHouse x = house();
-        D.due("free without a saddle", x.free(0, 9), Due.UNKNOWN);
-        D.due("changed without a saddle", x.changed(0, 9), Due.UNKNOWN);
         x.saddle(0, 0, 10, 5, 0);
-        long before = Due.told(x);
+        return x;
+    }
+
+    private static void freeRefuses() {
+        D.due("free without a saddle", house().free(0, 9), Due.UNKNOWN);
+        D.due("changed without a saddle", house().changed(0, 9), Due.UNKNOWN);
         int[] unknown = {-1, 1, 12, Due.LOW, Due.HIGH};
         for (int s : unknown) {
-            D.refused("free saddle " + s, x, before, x.free(s, -1), Due.UNKNOWN);
-            D.refused("changed saddle " + s, x, before, x.changed(s, -1), Due.UNKNOWN);
+            D.refused("free saddle " + s, SaddlesTest::withASaddle, h -> h.free(s, 11), Due.UNKNOWN);
+            D.refused("changed saddle " + s, SaddlesTest::withASaddle, h -> h.changed(s, 11), Due.UNKNOWN);
         }
-        int[] noDays = {-1, 9, 10, 10001, Due.LOW, Due.HIGH};
+        int[] noDays = {-1, 0, 9, 10, 10001, Due.LOW, Due.HIGH};
         for (int day : noDays) {
-            D.refused("free day " + day, x, before, x.free(0, day), Due.OUTSIDE);
-            D.refused("changed day " + day, x, before, x.changed(0, day), Due.OUTSIDE);
+            D.refused("free day " + day, SaddlesTest::withASaddle, h -> h.free(0, day), Due.OUTSIDE);
+            D.refused("changed day " + day, SaddlesTest::withASaddle, h -> h.changed(0, day), Due.OUTSIDE);
         }
+        D.refused("free answers and changes nothing", SaddlesTest::withASaddle, h -> h.free(0, 11), 1);
+        D.refused("changed answers and changes nothing", SaddlesTest::withASaddle, h -> h.changed(0, 11), 0);
+        SaddleHouse x = house();
         x.saddle(0, 0, 10000, 5, 0);
-        D.due("no day is later than 10000", x.free(1, 10000), Due.OUTSIDE);
-        D.due("nor to be asked of", x.changed(1, 10001), Due.OUTSIDE);
+        x.saddle(0, 0, 9999, 5, 0);
+        D.due("no day is later than 10000", x.free(0, 10000), Due.OUTSIDE);
+        D.due("nor to be asked of", x.changed(0, 10001), Due.OUTSIDE);
+        D.due("10000 is later than 9999", x.free(1, 10000), 1);
+        D.due("and has a change", x.changed(1, 10000), 0);
     }
 }

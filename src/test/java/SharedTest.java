@@ -5,14 +5,18 @@ public final class SharedTest {
     public static void main(String[] args) {
         dayAndClear();
         dayRefuses();
+        dayAgainBehindClear();
         servesNothing();
         serves();
         servesOverDays();
+        servesOnTheFirstAndTheLastDay();
+        servesByTheLeastAndTheMost();
         servesRefuses();
         fewest();
         fewestIsNotTheFirstThatServes();
         fewestOfLikeOnesTheLeastBits();
         fewestOfAllEight();
+        fewestByTheLeastAndTheMost();
         fewestRefuses();
         D.end();
     }
@@ -45,6 +49,20 @@ public final class SharedTest {
         D.refused("state comes ahead of full", x, before, x.day(3), Due.STATE);
         D.refused("outside comes ahead of full", x, before, x.day(-1), Due.OUTSIDE);
         D.due("clear() of six", x.clear(), 6);
+    }
+
+    private static void dayAgainBehindClear() {
+        SaddleHouse x = new SaddleHouse();
+        for (int round = 0; round < 3; round++) {
+            for (int n = 1; n <= 6; n++) {
+                D.due("day " + n + " of round " + round, x.day(n), n);
+            }
+            D.due("a seventh", x.day(7), Due.FULL);
+            D.due("the days that are gone", x.clear(), 6);
+            D.due("no days", x.count(5), 0);
+        }
+        D.due("clear() without days", x.clear(), 0);
+        D.due("clear() without days, again", x.clear(), 0);
     }
 
     private static void servesNothing() {
@@ -106,6 +124,35 @@ public final class SharedTest {
         x.clear();
         x.day(9);
         D.due("no back on day 9", x.serves(0, 9, 1), 1);
+    }
+
+    private static void servesOnTheFirstAndTheLastDay() {
+        SaddleHouse x = new SaddleHouse();
+        x.horse();
+        x.measure(0, 0);
+        x.tree();
+        x.height(0, 200);
+        x.measure(0, 10000);
+        x.day(0);
+        D.due("day 0", x.serves(1, 9, 1), 1);
+        x.day(9999);
+        D.due("day 9999", x.serves(1, 9, 1), 1);
+        x.day(10000);
+        D.due("day 10000", x.serves(1, 9, 1), 0);
+        D.due("none serves day 10000", x.fewest(9, 1), Due.NONE);
+        x.tree();
+        D.due("both trees", x.serves(3, 9, 1), 1);
+        D.due("bits of trees told later", x.fewest(9, 1), 3);
+    }
+
+    private static void servesByTheLeastAndTheMost() {
+        SaddleHouse x = threeHorses();
+        x.day(10);
+        D.due("a load of 1 rocks", x.serves(7, 1, 2000), 0);
+        D.due("a load of 2000 presses", x.serves(7, 2000, 222), 0);
+        D.due("a load of 2000 by 223", x.serves(7, 2000, 223), 1);
+        D.due("a load of 2000 by 2000", x.serves(7, 2000, 2000), 1);
+        D.due("a load of 1 by 1", x.serves(7, 1, 1), 0);
     }
 
     private static void servesRefuses() {
@@ -188,6 +235,16 @@ public final class SharedTest {
         x.clear();
         x.day(2);
         D.due("day 2 lies ahead of all", x.fewest(10, 1), 0);
+    }
+
+    private static void fewestByTheLeastAndTheMost() {
+        SaddleHouse x = threeHorses();
+        x.day(10);
+        D.due("a load of 1 by 2000", x.fewest(1, 2000), Due.NONE);
+        D.due("a load of 2000 by 222", x.fewest(2000, 222), Due.NONE);
+        D.due("a load of 2000 by 223", x.fewest(2000, 223), 7);
+        D.due("a load of 2000 by 2000, one for all", x.fewest(2000, 2000), 1);
+        D.due("a load of 1 by 1", x.fewest(1, 1), Due.NONE);
     }
 
     private static void fewestRefuses() {

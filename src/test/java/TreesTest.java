@@ -6,6 +6,8 @@ public final class TreesTest {
         tree();
         treeRefuses();
         shimAndUnder();
+        theLowestAndTheHighestUnderside();
+        aShimIsOfItsStationAlone();
         shimRefuses();
         underRefuses();
         D.end();
@@ -64,6 +66,39 @@ public final class TreesTest {
         D.due("and the underside with it", x.under(0, 1), 100);
         x.shim(0, 0, 6);
         D.due("an underside of -1", x.under(0, 0), -1);
+    }
+
+    private static void theLowestAndTheHighestUnderside() {
+        SaddleHouse x = new SaddleHouse();
+        Due.row(x, 0, 400, 20, 19, 100, 100, 100, 100, 0);
+        x.tree();
+        for (int i = 0; i <= 8; i++) {
+            x.shim(0, i, 20);
+        }
+        int[] want = {-20, 380, 0, -1, 80, 80, 80, 80, -20};
+        for (int i = 0; i <= 8; i++) {
+            D.due("the underside with a shim of 20 at " + i, x.under(0, i), want[i]);
+        }
+        x.shim(0, 1, 0);
+        D.due("the highest underside", x.under(0, 1), 400);
+        x.shim(0, 1, 1);
+        D.due("a shim of 1", x.under(0, 1), 399);
+    }
+
+    private static void aShimIsOfItsStationAlone() {
+        SaddleHouse x = new SaddleHouse();
+        x.tree();
+        x.tree();
+        D.due("a shim at the first", x.shim(0, 0, 3), 0);
+        D.due("a shim at the last", x.shim(1, 8, 4), 0);
+        for (int i = 0; i <= 8; i++) {
+            D.due("the first tree at " + i, x.under(0, i), i == 0 ? 97 : 100);
+            D.due("the second tree at " + i, x.under(1, i), i == 8 ? 96 : 100);
+            D.due("the row at hand at " + i, x.height(i, 50), 100);
+        }
+        D.due("a tree of the row", x.tree(), 2);
+        D.due("has no shim", x.shim(2, 0, 0), 0);
+        D.due("and the row's height", x.under(2, 0), 50);
     }
 
     private static void shimRefuses() {
