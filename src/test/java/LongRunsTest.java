@@ -11,6 +11,7 @@ public final class LongRunsTest {
     private final PlainHouse plain = new PlainHouse();
     private final int reach;
     private final int wildness;
+    private final int last;
     private long state;
 
     private LongRunsTest(Due due, int run) {
@@ -20,6 +21,8 @@ public final class LongRunsTest {
         // How far the days of a run reach, and how many of 64 arguments lie anywhere.
         this.reach = run % 3 == 0 ? 10000 : run % 3 == 1 ? 12 : 300;
         this.wildness = run % 4;
+        // Few horses and trees meet one another more often; now and then all eight are asked of.
+        this.last = run % 5 == 0 ? 7 : 3;
     }
 
     public static void main(String[] args) {
@@ -80,7 +83,7 @@ public final class LongRunsTest {
 
     private void measureBack() {
         int kind = next(6);
-        int horse = pick(0, 3);
+        int horse = pick(0, last);
         int day = next(3) == 0 ? pick(0, reach) : pick(0, 1 + reach / 4);
         if (kind == 0) {
             same("horse", x.horse(), plain.horse());
@@ -103,8 +106,8 @@ public final class LongRunsTest {
     }
 
     private void stepTrees(int kind) {
-        int t = pick(0, 3);
-        int horse = pick(0, 3);
+        int t = pick(0, last);
+        int horse = pick(0, last);
         int day = pick(0, reach);
         int load = aLoad();
         int i = pick(0, 8);
@@ -145,7 +148,7 @@ public final class LongRunsTest {
     }
 
     private void stepHides(int kind) {
-        int h = pick(0, 2);
+        int h = pick(0, last == 7 ? 3 : 2);
         int column = pick(0, 15);
         int line = pick(0, 11);
         int width = next(4) == 0 ? pick(1, 16) : pick(1, 4);
@@ -178,10 +181,10 @@ public final class LongRunsTest {
 
     private void stepSaddles(int kind) {
         int day = pick(0, reach);
-        int saddle = pick(0, 9);
+        int saddle = pick(0, last == 7 ? 11 : 9);
         if (kind == 34) {
-            int t = pick(0, 3);
-            int horse = pick(0, 3);
+            int t = pick(0, last);
+            int horse = pick(0, last);
             int d = next(2) == 0 ? pick(0, 2000) : pick(0, 10);
             int c = next(4) == 0 ? pick(0, 400) : pick(0, 6);
             same("saddle", x.saddle(t, horse, day, d, c), plain.saddle(t, horse, day, d, c), t, horse, day, d, c);
